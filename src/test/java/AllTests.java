@@ -1,0 +1,19 @@
+/** Runs every test of the project; ends with exit code 1 if one answer was wrong. */
+public final class AllTests {
+    private AllTests() {
+    }
+
+    public static void main(String[] args) throws Exception {
+        FaceTest.run();
+        SourceTest.run();
+        TendersAndBidsTest.run();
+        AwardsTest.run();
+        ComplaintsTest.run();
+        ContractsTest.run();
+        ModelTest.run();
+        System.out.println("project's own checks: " + Check.summary());
+        if (Check.failures() > 0) {
+            System.exit(1);
+        }
+    }
+}
