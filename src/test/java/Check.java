@@ -1,3 +1,4 @@
+import java.util.function.Consumer;
 import java.util.function.Supplier;
 
 /** Counts what was checked and prints every answer that is not the one that is due. */
@@ -21,7 +22,7 @@ final class Check {
         }
     }
 
-    /** The very class of exception is due, for a subclass could be one that the machine threw. */
+    /** The very class of exception is due, and thrown by the class itself: the machine never throws in it. */
     static void fails(String what, Class<? extends RuntimeException> due, Runnable call) {
         same(what, outcome(call), "throws " + due.getSimpleName());
     }
@@ -31,7 +32,7 @@ final class Check {
      * from then on: a single look would use up the 512 calls of a hall too soon.
      */
     static void failsUnchanged(String what, Class<? extends RuntimeException> due,
-            Supplier<TenderHall> maker, java.util.function.Consumer<TenderHall> call) {
+            Supplier<TenderHall> maker, Consumer<TenderHall> call) {
         TenderHall touched = maker.get();
         fails(what, due, () -> call.accept(touched));
         same(what + ", the hall behind it", Snapshot.of(touched), Snapshot.of(maker.get()));
@@ -54,7 +55,15 @@ final class Check {
             call.run();
             return "throws nothing";
         } catch (RuntimeException e) {
-            return "throws " + e.getClass().getSimpleName();
+            return told(e);
         }
+    }
+
+    /** Tells an exception of the library's or the machine's own apart from one that the class threw. */
+    static String told(Throwable thrown) {
+        StackTraceElement[] trace = thrown.getStackTrace();
+        String place = trace.length == 0 ? "the machine" : trace[0].getClassName();
+        boolean isOwn = place.equals("TenderHall") || place.startsWith("TenderHall$");
+        return "throws " + thrown.getClass().getSimpleName() + (isOwn ? "" : " in " + place);
     }
 }
