@@ -10,6 +10,12 @@ public final class AllTests {
         AwardsTest.run();
         ComplaintsTest.run();
         ContractsTest.run();
+        TenderEdgesTest.run();
+        BidEdgesTest.run();
+        AwardEdgesTest.run();
+        LapseEdgesTest.run();
+        ComplaintEdgesTest.run();
+        ContractEdgesTest.run();
         ModelTest.run();
         System.out.println("project's own checks: " + Check.summary());
         if (Check.failures() > 0) {

@@ -71,29 +71,10 @@ final class AwardsTest {
         return hall;
     }
 
-    /** Two lots, one with so many awards, each but the last sent back over its quality. */
-    static TenderHall withAwards(int count) {
-        TenderHall hall = new TenderHall();
-        hall.addTender(1, 0, 0, 30);
-        hall.addLot(0, 7);
-        hall.addLot(0, 11);
-        for (int lot = 0; lot < 2; lot++) {
-            hall.bid(0, 0, lot, 10, 100);
-            hall.bid(1, 0, lot, 10, 50);
-        }
-        hall.pass(1);
-        hall.award(0, 0);
-        for (int i = 1; i < count; i++) {
-            hall.complain(1, i - 1, TenderHall.QUALITY);
-            hall.rule(i - 1, true, 100);
-        }
-        return hall;
-    }
-
     private static void sixtyAwards() {
-        TenderHall last = withAwards(59);
+        TenderHall last = Halls.withAwards(59);
         Check.same("12 the sixtieth", last.award(0, 1), 59);
-        TenderHall hall = withAwards(60);
+        TenderHall hall = Halls.withAwards(60);
         Check.same("12 sixty", hall.awardOf(0, 0), 59);
         Check.fails("12 no more than sixty", Check.STATE, () -> hall.award(0, 1));
         Check.fails("12 index ahead of sixty", Check.INDEX, () -> hall.award(0, 2));
@@ -251,7 +232,7 @@ final class AwardsTest {
         hall.award(4, 1);
         Check.same("18 19 first", Halls.lineOf(hall, 0), "#0 T5L2 B7");
         Check.same("18 19 second", Halls.lineOf(hall, 1), "#1 T4L1 B6");
-        TenderHall many = withAwards(60);
+        TenderHall many = Halls.withAwards(60);
         Check.same("18 two digits", many.line(59), 11);
         Check.same("19 two digits", Halls.lineOf(many, 59), "#59 T0L0 B0");
         Check.same("19 two digits, void", Halls.lineOf(many, 10), "#10 T0L0 B0V");
@@ -346,7 +327,7 @@ final class AwardsTest {
     }
 
     private static void lapseAtSixty() {
-        TenderHall hall = withAwards(58);
+        TenderHall hall = Halls.withAwards(58);
         hall.award(0, 1);
         hall.pass(60);
         Check.same("lapse: the fifty-eighth is void", hall.isVoid(57), true);

@@ -27,15 +27,22 @@ final class Check {
         same(what, outcome(call), "throws " + due.getSimpleName());
     }
 
+    static void taken(String what, Runnable call) {
+        same(what, outcome(call), "throws nothing");
+    }
+
     /**
-     * Makes the same hall twice, lets the call throw on one, and looks whether both answer alike
-     * from then on: a single look would use up the 512 calls of a hall too soon.
+     * Makes the same hall anew for each look, with and without the call that throws, and looks whether
+     * both answer alike from then on: one hall's 512 calls would not do for all looks.
      */
     static void failsUnchanged(String what, Class<? extends RuntimeException> due,
             Supplier<TenderHall> maker, Consumer<TenderHall> call) {
         TenderHall touched = maker.get();
         fails(what, due, () -> call.accept(touched));
         same(what + ", the hall behind it", Snapshot.of(touched), Snapshot.of(maker.get()));
+        TenderHall again = maker.get();
+        fails(what, due, () -> call.accept(again));
+        same(what + ", what can be done behind it", Snapshot.ofDeeds(again), Snapshot.ofDeeds(maker.get()));
     }
 
     static void isTrue(String what, boolean got) {

@@ -91,20 +91,7 @@ final class ComplaintsTest {
     }
 
     private static void sixtyComplaints() {
-        TenderHall hall = new TenderHall();
-        for (int t = 0; t < 3; t++) {
-            hall.addTender(1, 0, 0, 5);
-            for (int lot = 0; lot < 3; lot++) {
-                hall.addLot(t, 1);
-                for (int b = 0; b < 8; b++) {
-                    hall.bid(b, t, lot, 5, 50 - b);
-                }
-            }
-        }
-        hall.pass(1);
-        for (int award = 0; award < 9; award++) {
-            hall.award(award / 3, award % 3);
-        }
+        TenderHall hall = Halls.nineAwards();
         for (int i = 0; i < 60; i++) {
             Check.same("20 number", hall.complain(1 + i % 7, i / 7, PAPERS), i);
         }

@@ -66,14 +66,7 @@ final class ContractsTest {
         Check.fails("25 one too much", Check.STATE, () -> hall.call(0, 401));
         Check.same("25 to the price", hall.call(0, 400), 1000);
         Check.fails("25 more than the price", Check.STATE, () -> hall.call(0, 1));
-        TenderHall dear = new TenderHall();
-        dear.addTender(1, 0, 0, 0);
-        dear.addLot(0, 0);
-        dear.bid(0, 0, 0, 100000, 5);
-        dear.pass(1);
-        dear.award(0, 0);
-        dear.sign(0);
-        Check.same("25 the highest price at once", dear.call(0, 100000), 100000);
+        Check.same("25 the highest price at once", Halls.signedAt(100000).call(0, 100000), 100000);
     }
 
     private static void callStandsStill() {

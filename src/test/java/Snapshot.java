@@ -19,11 +19,64 @@ final class Snapshot {
         shot.lookAtAll();
         shot.tryWhatIsHidden();
         // Sealed bids and counted days show themselves only as days go by.
-        hall.pass(10);
+        shot.passIfItCan(10);
         shot.lookAtAll();
-        hall.pass(30);
+        shot.passIfItCan(30);
         shot.lookAtAll();
         return shot.text.toString();
+    }
+
+    /** What each call that changes something does from then on, and what comes of them all. */
+    static String ofDeeds(TenderHall hall) {
+        Snapshot shot = new Snapshot(hall);
+        shot.bidOnce();
+        shot.complainOnce();
+        shot.signAndCall();
+        shot.lookAtAll();
+        return shot.text.toString();
+    }
+
+    private void passIfItCan(int days) {
+        text.append("\npass ").append(answer(() -> hall.pass(days)));
+    }
+
+    private void bidOnce() {
+        text.append("\nbids");
+        for (int b = 0; b < BIDDERS; b++) {
+            int bidder = b;
+            text.append(answer(() -> hall.bid(bidder, 0, 0, 700, 60 + bidder)));
+        }
+        text.append(answer(() -> hall.withdraw(7, 0, 0))).append(answer(() -> hall.award(0, 0)));
+    }
+
+    private void complainOnce() {
+        text.append("\ncomplaints");
+        for (int i = 0; i < 4 * BIDDERS; i++) {
+            int award = i / BIDDERS;
+            int bidder = i % BIDDERS;
+            text.append(answer(() -> hall.complain(bidder, award, TenderHall.PAPERS)));
+        }
+        for (int i = 0; i < BIDDERS; i++) {
+            int complaint = i;
+            text.append(answer(() -> hall.rule(complaint, false, 0))).append(answer(() -> hall.appeal(complaint)));
+        }
+        text.append(answer(() -> hall.rule(1, true, 0))).append(answer(() -> hall.rule(0, true, 0)));
+        for (int i = 0; i < BIDDERS; i++) {
+            int complaint = i;
+            text.append(answer(() -> hall.rule(complaint, false, 0)));
+        }
+    }
+
+    private void signAndCall() {
+        passIfItCan(5);
+        for (int i = 0; i < BIDDERS; i++) {
+            int award = i;
+            text.append(answer(() -> hall.sign(award)));
+        }
+        for (int i = 0; i < 3; i++) {
+            int contract = i;
+            text.append(answer(() -> hall.call(contract, 7)));
+        }
     }
 
     private void lookAtAll() {
