@@ -656,18 +656,21 @@ public final class TenderHall {
         Bid bidAtPlace(int place) {
             for (int i = 0; i < bids.size(); i++) {
                 Bid bid = bids.get(i);
-                if (bid.status == Status.IN && betterThan(i, bid) == place) {
+                if (bid.status == Status.IN && countBetter(i, bid) == place) {
                     return bid;
                 }
             }
             return null;
         }
 
-        private int betterThan(int index, Bid bid) {
+        private int countBetter(int index, Bid bid) {
             int score = scoreOf(bid);
             int count = 0;
             for (int i = 0; i < bids.size(); i++) {
                 Bid one = bids.get(i);
+                if (one.status != Status.IN) {
+                    continue;
+                }
                 int lead = scoreOf(one) - score;
                 if (lead == 0) {
                     lead = bid.price - one.price;
@@ -675,7 +678,7 @@ public final class TenderHall {
                 if (lead == 0) {
                     lead = index - i;
                 }
-                if (one.status == Status.IN && lead > 0) {
+                if (lead > 0) {
                     count++;
                 }
             }

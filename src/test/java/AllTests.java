@@ -5,7 +5,9 @@ public final class AllTests {
 
     public static void main(String[] args) throws Exception {
         FaceTest.run();
+        ShapeTest.run();
         SourceTest.run();
+        RoomTest.run();
         TendersAndBidsTest.run();
         AwardsTest.run();
         ComplaintsTest.run();

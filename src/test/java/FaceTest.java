@@ -2,7 +2,6 @@ import java.lang.reflect.Constructor;
 import java.lang.reflect.Field;
 import java.lang.reflect.Method;
 import java.lang.reflect.Modifier;
-import java.util.ArrayList;
 import java.util.List;
 import java.util.TreeSet;
 
@@ -57,30 +56,23 @@ final class FaceTest {
         TreeSet<String> got = new TreeSet<>();
         for (Field field : face.getDeclaredFields()) {
             if (!Modifier.isPrivate(field.getModifiers()) && !field.isSynthetic()) {
-                got.add(field.getName() + "=" + field.getInt(null));
+                got.add(field.getType() + " " + field.getName() + "=" + field.getInt(null));
                 Check.same(field.getName(), field.getModifiers(), Modifier.PUBLIC | Modifier.STATIC | Modifier.FINAL);
             }
         }
         Check.same("constants", got.toString(),
-                "[DISMISSED=2, EXCLUDED=2, MOOT=3, NONE=-1, OPEN=0, PAPERS=0, QUALITY=1, UPHELD=1]");
+                "[int DISMISSED=2, int EXCLUDED=2, int MOOT=3, int NONE=-1, int OPEN=0, int PAPERS=0, "
+                        + "int QUALITY=1, int UPHELD=1]");
     }
 
     private static void methods(Class<?> face) {
         TreeSet<String> got = new TreeSet<>();
-        List<String> hidden = new ArrayList<>();
         for (Method method : face.getDeclaredMethods()) {
-            if (Modifier.isPrivate(method.getModifiers())) {
-                hidden.add(method.getName());
-            } else if (!method.isSynthetic()) {
+            if (!Modifier.isPrivate(method.getModifiers()) && !method.isSynthetic()) {
                 got.add(signature(method));
             }
         }
         Check.same("methods", got, new TreeSet<>(List.of(METHODS)));
-        for (Method method : face.getDeclaredMethods()) {
-            if (Modifier.isPublic(method.getModifiers())) {
-                Check.same("a private method named " + method.getName(), hidden.contains(method.getName()), false);
-            }
-        }
     }
 
     private static String signature(Method method) {
